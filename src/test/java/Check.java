@@ -62,4 +62,42 @@ final class Check {
         yes("stage", vault.stage(repository, file));
         return vault.commit(repository);
     }
+
+    /** All that the face tells of a vault's state, for comparing before and after a call. */
+    static String state(SnapshotVault vault) {
+        StringBuilder told = new StringBuilder();
+        int made = vault.commits();
+        told.append("commits ").append(made);
+        for (int commit = 0; commit < made; commit++) {
+            told.append("; ").append(commit).append(" from ").append(vault.parent(commit, 0));
+            told.append(' ').append(vault.parent(commit, 1)).append(':');
+            for (int file = 0; file < 4; file++) {
+                told.append(' ').append(Long.toHexString(vault.text(commit, file)));
+            }
+        }
+        for (int repository = 0; repository < 2; repository++) {
+            told.append("; repository on ").append(vault.current(repository)).append(", tips");
+            for (int branch = 0; branch < 4; branch++) {
+                told.append(' ').append(vault.tip(repository, branch));
+            }
+            told.append(", files");
+            for (int file = 0; file < 4; file++) {
+                told.append(' ').append(Long.toHexString(vault.working(repository, file)));
+                told.append('/').append(Long.toHexString(vault.staged(repository, file)));
+            }
+            told.append(", holds");
+            for (int commit = 0; commit < made; commit++) {
+                told.append(vault.holds(repository, commit) ? " " + commit : "");
+            }
+        }
+        return told.toString();
+    }
+
+    static void same(String what, String got, String want) {
+        checks++;
+        if (!got.equals(want)) {
+            wrong++;
+            System.out.println(what + ": the state is " + got + ", due is " + want);
+        }
+    }
 }
