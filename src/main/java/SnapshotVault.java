@@ -295,7 +295,7 @@ public final class SnapshotVault {
     }
 
     private void moveTo(Repository place, int commit) {
-        // A repository holds all that its head reaches, so this adds new commits alone.
+        // What its branches reach is held already, so that this adds new commits alone.
         place.held |= history.reachOf(commit);
         place.tips[place.current] = commit;
         history.copySnapshot(commit, place.working);
@@ -356,7 +356,7 @@ public final class SnapshotVault {
         }
 
         static boolean isIn(long set, int commit) {
-            return (set >>> commit & 1L) != 0;
+            return ((set >>> commit) & 1L) != 0;
         }
 
         boolean isMade(int commit) {
@@ -430,7 +430,7 @@ public final class SnapshotVault {
             }
             firstParents[made] = firstParent;
             secondParents[made] = secondParent;
-            reached[made] = 1L << made | reachOf(firstParent) | reachOf(secondParent);
+            reached[made] = (1L << made) | reachOf(firstParent) | reachOf(secondParent);
             size = made + 1;
             return made;
         }
@@ -480,8 +480,8 @@ public final class SnapshotVault {
         }
 
         static long pack(long lines, int count) {
-            long used = (1L << LINE_BITS * count) - 1;
-            return (long) count << COUNT_SHIFT | lines & used;
+            long used = (1L << (LINE_BITS * count)) - 1;
+            return ((long) count << COUNT_SHIFT) | (lines & used);
         }
 
         static int countOf(long text) {
@@ -489,11 +489,11 @@ public final class SnapshotVault {
         }
 
         static long lineAt(long text, int k) {
-            return text >>> LINE_BITS * k & LINE_MASK;
+            return (text >>> (LINE_BITS * k)) & LINE_MASK;
         }
 
         static long piece(long text, int from, int to) {
-            return pack(text >>> LINE_BITS * from, to - from);
+            return pack(text >>> (LINE_BITS * from), to - from);
         }
 
         /** One text behind the other, or CLASH when one of them is that or they are too long. */
@@ -506,8 +506,8 @@ public final class SnapshotVault {
             if (count > MOST_LINES) {
                 return CLASH;
             }
-            long lines = front & LINES_MASK | (back & LINES_MASK) << LINE_BITS * frontCount;
-            return pack(lines, count);
+            long added = (back & LINES_MASK) << (LINE_BITS * frontCount);
+            return pack((front & LINES_MASK) | added, count);
         }
     }
 

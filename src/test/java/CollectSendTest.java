@@ -10,6 +10,7 @@ public final class CollectSendTest {
         collectOfNothing();
         sendGivesAllThatTheTipReaches();
         sendGoesBothWays();
+        sendAddsToWhatIsHeld();
         sendCountsWhatIsNew();
         sendRefusesWrongNumbers();
         sendNeedsTheBranch();
@@ -103,6 +104,14 @@ public final class CollectSendTest {
         Check.due("commit in 0", Check.save(vault, 0, 0, 2), 1);
         Check.due("send from 0", vault.send(0, 3), 1);
         Check.due("tip in 1", vault.tip(1, 3), 1);
+    }
+
+    private static void sendAddsToWhatIsHeld() {
+        SnapshotVault vault = forked();
+        Check.due("a commit in 1", Check.save(vault, 1, 3, 5), 4);
+        Check.due("send", vault.send(0, 1), 3);
+        Check.yes("1 still holds its own", vault.holds(1, 4));
+        Check.due("its tip", vault.tip(1, 0), 4);
     }
 
     private static void sendCountsWhatIsNew() {

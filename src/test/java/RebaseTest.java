@@ -5,6 +5,7 @@ public final class RebaseTest {
         rebaseOntoWhatTheHeadReaches();
         rebaseWithoutCommits();
         rebaseOntoAnotherRoot();
+        rebaseOntoTheSameRoot();
         rebaseSkipsWhatIsThere();
         rebaseSkipsMerges();
         lowestNumberComesFirst();
@@ -12,6 +13,7 @@ public final class RebaseTest {
         rebaseNeedsBranchAndHead();
         rebaseNeedsACleanRepository();
         clashChangesNothing();
+        clashOfTheFirstChangesNothing();
         fullChangesNothing();
         firstTroubleIsAnswered();
         rebaseWhenFull();
@@ -83,6 +85,17 @@ public final class RebaseTest {
         Check.due("4, file 0", vault.text(4, 0), Check.text(2));
         Check.due("4, file 1", vault.text(4, 1), Check.text(3));
         Check.due("parent", vault.parent(4, 0), 3);
+    }
+
+    private static void rebaseOntoTheSameRoot() {
+        SnapshotVault vault = new SnapshotVault();
+        Check.due("a root", Check.save(vault, 0, 0, 1), 0);
+        Check.yes("branch", vault.branch(0, 1));
+        Check.due("a root with the same snapshot", Check.save(vault, 1, 0, 1), 1);
+        Check.due("send", vault.send(0, 1), 1);
+        Check.due("rebase", vault.rebase(1, 1), 0);
+        Check.due("moved to commit 0", vault.tip(1, 0), 0);
+        Check.due("commits", vault.commits(), 2);
     }
 
     private static void rebaseSkipsWhatIsThere() {
@@ -196,6 +209,16 @@ public final class RebaseTest {
         Check.due("its file 1", vault.text(5, 1), SnapshotVault.NONE);
         Check.due("its file 3", vault.text(5, 3), Check.text(7));
         Check.due("base", vault.base(5, 4), 0);
+    }
+
+    private static void clashOfTheFirstChangesNothing() {
+        SnapshotVault vault = forked();
+        Check.due("checkout", vault.checkout(0, 0), 1);
+        Check.due("commit", Check.save(vault, 0, 2, 9), 4);
+        Check.due("checkout", vault.checkout(0, 1), 3);
+        String before = Check.state(vault);
+        Check.due("the first one clashes", vault.rebase(0, 0), SnapshotVault.CLASH);
+        Check.same("after CLASH", Check.state(vault), before);
     }
 
     private static void fullChangesNothing() {
