@@ -1,17 +1,57 @@
+import java.util.function.Predicate;
+import java.util.function.Supplier;
+import java.util.function.ToLongFunction;
+
 /** Compares answers with what is due, and makes vaults easier to fill. */
 final class Check {
+    /** Numbers that are no repository; some of them come to 0 or 1 when bits are cut off. */
+    static final int[] NO_REPOSITORIES = {-1, 2, 3, 256, 65537, 1 << 30, Integer.MAX_VALUE,
+        Integer.MIN_VALUE, Integer.MIN_VALUE + 1};
+
+    /** Numbers that are no branch and no file, chosen likewise. */
+    static final int[] NO_BRANCHES = {-1, 4, 5, 256, 65537, 1 << 30, Integer.MAX_VALUE,
+        Integer.MIN_VALUE, Integer.MIN_VALUE + 1};
+    static final int[] NO_FILES = NO_BRANCHES;
+
+    /** Numbers that no commit can have in any vault, chosen likewise. */
+    static final int[] NO_COMMITS = {-1, -2, -64, 40, 41, 63, 64, 65, 256, 65537, 1 << 30,
+        Integer.MAX_VALUE, Integer.MIN_VALUE, Integer.MIN_VALUE + 1};
+
     private static int checks = 0;
     private static int wrong = 0;
+    private static String sentence = "";
 
     private Check() {
+    }
+
+    /** The document's words that the next checks are about; told with every wrong answer. */
+    static void sentence(String words) {
+        sentence = "[" + words + "] ";
     }
 
     static void due(String what, long got, long want) {
         checks++;
         if (got != want) {
             wrong++;
-            System.out.println(what + " answered " + got + ", due is " + want);
+            System.out.println(sentence + what + " answered " + got + ", due is " + want);
         }
+    }
+
+    /**
+     * A call that must answer want and change nothing: afterwards the vault must be as another one
+     * that was made in the same way and did not get the call. Two vaults, and not one that is
+     * looked at twice, because looking at 40 commits takes most of a vault's 512 calls.
+     */
+    static void refused(String what, Supplier<SnapshotVault> scene,
+            ToLongFunction<SnapshotVault> call, long want) {
+        SnapshotVault vault = scene.get();
+        due(what, call.applyAsLong(vault), want);
+        same("after " + what, state(vault), state(scene.get()));
+    }
+
+    /** The same for a call that answers false. */
+    static void denied(String what, Supplier<SnapshotVault> scene, Predicate<SnapshotVault> call) {
+        refused(what, scene, vault -> call.test(vault) ? 1 : 0, 0);
     }
 
     static void yes(String what, boolean got) {
@@ -97,7 +137,7 @@ final class Check {
         checks++;
         if (!got.equals(want)) {
             wrong++;
-            System.out.println(what + ": the state is " + got + ", due is " + want);
+            System.out.println(sentence + what + ": the state is " + got + ", due is " + want);
         }
     }
 }
