@@ -18,6 +18,7 @@ public final class MergeEdgeTest {
         clashWithoutABase();
         emptyTextsWithoutABase();
         clashChangesNothing();
+        clashLeavesNoTrace();
         fullChangesNothing();
         lastCommitMayBeAMerge();
         clashComesBeforeFull();
@@ -210,6 +211,20 @@ public final class MergeEdgeTest {
         Check.due("commit", Check.save(vault, 0, file, 9), 2);
         Check.due("checkout", vault.checkout(0, 0), 1);
         return vault;
+    }
+
+    private static void clashLeavesNoTrace() {
+        Check.sentence("Promise 9: CLASH; a refused call changes nothing");
+        SnapshotVault vault = clashIn(3);
+        Check.due("clash in the last file", vault.merge(0, 1), SnapshotVault.CLASH);
+        Check.due("commit", Check.save(vault, 0, 3, 9), 3);
+        Check.due("the same text on both sides", vault.merge(0, 1), 4);
+        Check.due("file 0", vault.text(4, 0), Check.text(1));
+        Check.due("file 1", vault.text(4, 1), Check.text(2));
+        Check.due("file 2", vault.text(4, 2), Check.text(3));
+        Check.due("file 3", vault.text(4, 3), Check.text(9));
+        Check.due("first parent", vault.parent(4, 0), 3);
+        Check.due("second parent", vault.parent(4, 1), 2);
     }
 
     private static void fullChangesNothing() {

@@ -19,6 +19,7 @@ public final class RebaseEdgeTest {
         eachOnWhatTheOneBeforeHasLedTo();
         nothingIsPassedOver();
         allIsPassedOver();
+        movesToCommitZero();
         firstClashChangesNothing();
         lastClashChangesNothing();
         clashLeavesNoTrace();
@@ -249,6 +250,16 @@ public final class RebaseEdgeTest {
         Check.due("commits", vault.commits(), 4);
     }
 
+    private static void movesToCommitZero() {
+        Check.sentence("Promise 11: or to the branch's tip when there is none");
+        SnapshotVault vault = Scenes.oneCommit();
+        Check.due("send", vault.send(0, 1), 1);
+        Check.due("a root with the same snapshot", Check.save(vault, 1, 0, 1, 2, 3), 1);
+        Check.due("rebase", vault.rebase(1, 1), 0);
+        Check.due("tip", vault.tip(1, 0), 0);
+        Check.due("the root that was left", vault.collect(1), 1);
+    }
+
     private static void firstClashChangesNothing() {
         Check.sentence("Promise 11: CLASH .. then nothing is changed at all");
         Check.refused("the only one", Scenes::clashingFork, x -> x.rebase(0, 1),
@@ -302,6 +313,8 @@ public final class RebaseEdgeTest {
                 + " all");
         Check.refused("no room", () -> Scenes.full(Scenes.fork()), x -> x.rebase(0, 1),
                 SnapshotVault.FULL);
+        Check.refused("no room for the first of three", () -> Scenes.full(threeOnBranchOne()),
+                x -> x.rebase(0, 0), SnapshotVault.FULL);
     }
 
     private static void fullInTheMiddleChangesNothing() {

@@ -6,6 +6,8 @@ public final class UniteEdgeTest {
         firstGoesOnWhenItLosesLess();
         firstGoesOnWhenBothLoseAlike();
         secondGoesOnWhenItLosesLess();
+        subsequenceTakesEachLineOnce();
+        subsequenceNeedsNoNeighbours();
         equalLinesAreMatchedAtOnce();
         matchingEndsWithTheOriginal();
         matchingEndsWithTheOtherText();
@@ -23,6 +25,7 @@ public final class UniteEdgeTest {
         unitedTextOfFifteenLines();
         wholeFilesAndNothing();
         everyFileByItself();
+        noFileIsUnitedLikeTheOneBefore();
         Check.end();
     }
 
@@ -52,6 +55,8 @@ public final class UniteEdgeTest {
         // The original's 1 is passed over, and its 2 is matched.
         united(row(1, 2), row(2, 1), row(2), row(2, 1));
         clash(row(1, 2), row(2, 1), row(1));
+        // The original's first 1 is passed over, and its second one is matched.
+        united(row(1, 1), row(1, 1, 1), row(2, 1), row(2, 1, 1));
         // Its 1, 1 are passed over for its 2, 2, which are as many.
         united(row(1, 1, 2, 2), row(2, 2, 1, 1), row(2, 3, 2), row(2, 3, 2, 1, 1));
         clash(row(1, 1, 2, 2), row(2, 2, 1, 1), row(1, 3, 1));
@@ -62,6 +67,20 @@ public final class UniteEdgeTest {
         united(row(1), row(2, 1), row(1, 3), row(2, 1, 3));
         // Its 1, 1 are matched; had the original gone on, only its 2 would be.
         united(row(1, 1, 2), row(2, 1, 1), row(1, 3, 1, 2), row(2, 1, 3, 1));
+    }
+
+    private static void subsequenceTakesEachLineOnce() {
+        Check.sentence("lines .. that stand in both texts in the same order");
+        // 2, 3 are two lines, and 1 is one line, however often the other text has it.
+        united(row(2, 3, 1, 1), row(1, 2, 3), row(2, 9, 3, 1, 1), row(1, 2, 9, 3));
+        united(row(1, 2, 3), row(2, 3, 1, 1, 1), row(1, 2, 9, 3), row(2, 9, 3, 1, 1, 1));
+    }
+
+    private static void subsequenceNeedsNoNeighbours() {
+        Check.sentence("A common subsequence: lines, not necessarily neighbours");
+        // 1, 2, 3 stand apart in the changed text, and are more than the neighbours 4, 4.
+        united(row(4, 4, 1, 2, 3), row(1, 5, 2, 5, 3, 4, 4), row(1, 2, 3),
+                row(1, 5, 2, 5, 3, 4, 4));
     }
 
     private static void equalLinesAreMatchedAtOnce() {
@@ -77,12 +96,18 @@ public final class UniteEdgeTest {
     private static void matchingEndsWithTheOriginal() {
         Check.sentence("It ends when one of them is at its end");
         united(row(1), row(1, 2, 3), row(4, 1), row(4, 1, 2, 3));
+        united(row(1), row(1, 0), row(4, 1), row(4, 1, 0));
+        united(row(1, 1, 1, 1, 1, 1, 1, 2), row(2, 8), row(2), row(2, 8));
         united(row(1, 2), row(1, 2, 3, 4, 5, 6, 7, 8), row(2), row(2, 3, 4, 5, 6, 7, 8));
     }
 
     private static void matchingEndsWithTheOtherText() {
         Check.sentence("It ends when one of them is at its end");
         united(row(1, 2, 3), row(1), row(4, 1, 2, 3), row(4, 1));
+        united(row(1, 0), row(1), row(4, 1, 0), row(4, 1));
+        clash(row(1, 0), row(1), row(1, 9, 0));
+        united(row(2, 8), row(1, 1, 1, 1, 1, 1, 1, 2), row(2), row(1, 1, 1, 1, 1, 1, 1, 2));
+        clash(row(2, 8), row(1, 1, 1, 1, 1, 1, 1, 2), row(2, 9, 8));
         united(row(1, 2, 3, 4, 5, 6, 7), row(1), row(9, 1, 2, 3, 4, 5, 6, 7), row(9, 1));
     }
 
@@ -226,5 +251,33 @@ public final class UniteEdgeTest {
         Check.due("what the tip has", vault.text(3, 1), SnapshotVault.NONE);
         Check.due("united", vault.text(3, 2), Check.text(9, 2, 8));
         Check.due("what both have", vault.text(3, 3), 0);
+    }
+
+    /** Texts of many lengths in one merge: what one file needed must not tell in the next. */
+    private static void noFileIsUnitedLikeTheOneBefore() {
+        Check.sentence("UNITING two snapshots that come from a third one goes file by file");
+        int[][] origin = {{1, 2, 3, 4, 5, 6, 7}, {1, 1}, {1, 2, 3}, {1}};
+        int[][] first = {{0, 1, 2, 3, 4, 5, 6, 7}, {1, 1, 1}, {2, 3, 1, 1, 1}, {2, 1}};
+        int[][] second = {{1, 2, 3, 4, 5, 6, 8}, {2, 1}, {1, 2, 9, 3}, {1, 3}};
+        int[][] want = {{0, 1, 2, 3, 4, 5, 6, 8}, {2, 1, 1}, {2, 9, 3, 1, 1, 1}, {2, 1, 3}};
+        for (int turn = 0; turn < 4; turn++) {
+            SnapshotVault vault = new SnapshotVault();
+            saveAll(vault, origin, turn);
+            Check.yes("branch", vault.branch(0, 1));
+            saveAll(vault, first, turn);
+            Check.due("checkout", vault.checkout(0, 1), 0);
+            saveAll(vault, second, turn);
+            Check.due("merge", vault.merge(0, 0), 3);
+            for (int k = 0; k < 4; k++) {
+                Check.due("united", vault.text(3, (k + turn) % 4), Check.text(want[k]));
+            }
+        }
+    }
+
+    private static void saveAll(SnapshotVault vault, int[][] texts, int turn) {
+        for (int k = 0; k < 4; k++) {
+            Check.put(vault, 0, (k + turn) % 4, texts[k]);
+        }
+        Check.due("commit", vault.commit(0), vault.commits() - 1);
     }
 }
