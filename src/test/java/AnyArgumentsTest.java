@@ -1,7 +1,7 @@
 import java.util.List;
 import java.util.function.Supplier;
 
-/** Every call with arguments from all over the int range: none throws, and wrong ones are refused. */
+/** Calls with arguments from all over their range: none throws, and wrong ones are refused. */
 public final class AnyArgumentsTest {
     private static final int[] ANY = {Integer.MIN_VALUE, Integer.MIN_VALUE + 1, -64, -2, -1, 0, 1,
         2, 3, 4, 5, 39, 40, 64, 256, 65537, 1 << 30, Integer.MAX_VALUE};
